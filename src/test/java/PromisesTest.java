@@ -659,6 +659,9 @@ public final class PromisesTest {
         promise = 24;
         PascalRows x = new PascalRows();
         due("nothing seen", x.fits(), 15);
+        x.see(3, 1, 0);
+        due("3 by 3", x.fits(), 2);
+        x.see(-1, 0, 0);
         x.see(7, 3, 0);
         due("35 by 5 and 7", x.fits(), 12);
         x.see(5, 1, 5);
@@ -813,6 +816,33 @@ public final class PromisesTest {
         due("window goes on", x.after(0), 8 + 1 + 2 + 2 + 4 + 2 + 4 + 4);
         x.window(120, 0);
         due("seen as it is by now", x.after(0), 8);
+        marksGo();
+    }
+
+    /** By 2 rows 0 .. 7 have 27 places without a carry, 6 with one, 3 with two. */
+    private static void marksGo() {
+        int[] vs = {9, 0, 8, 1, 7, 2};
+        int[] gone = {0, 1, 2, 3, 4, 5};
+        int[] left = {36, 9, 36, 30, 36, 33};
+        PascalRows x = new PascalRows();
+        for (int v : vs) {
+            x.mark(2, v);
+        }
+        for (int i = 0; i < 6; i++) {
+            x.event(-1, 0);
+            x.event(3, gone[i]);
+            due("mark " + i + " of six goes", x.after(2), 5);
+            due("mark " + i + " of six goes", x.after(0), left[i]);
+        }
+        x.event(-1, 0);
+        x.event(3, 0);
+        x.event(3, 4);
+        due("the last that is by then", x.after(0), 33);
+        x.event(3, 1);
+        x.event(3, 1);
+        due("27 are left", x.after(0), 27);
+        due("the marks stay", x.markOf(5, 1), 2);
+        due("six stay", x.told(6), 36);
     }
 
     private static void book() {
@@ -1116,6 +1146,18 @@ public final class PromisesTest {
         items(x, 0, 10, 11, 12, 13, 13);
         due("all of it", x.shift(1, 0, 0, 1, 4), 4);
         items(x, 0, 10, 20, 13, 14, 23);
+        x.tape(4, 2, 60);
+        x.tape(5, 2, 60);
+        x.item(4, 0, 1);
+        x.item(4, 59, 2);
+        due("60 to the last", x.shift(4, 0, 5, 0, 60), 60);
+        due("its first", x.peek(5, 0), 1);
+        due("its last", x.peek(5, 59), 2);
+        x.item(5, 0, 3);
+        due("60 from the last", x.shift(5, 0, 4, 0, 60), 60);
+        due("its first", x.peek(4, 0), 3);
+        due("the last onto the first", x.shift(5, 59, 5, 0, 1), 1);
+        due("its first", x.peek(5, 0), 2);
     }
 
     private static void items(PascalRows x, int tape, long... items) {
