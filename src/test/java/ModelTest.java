@@ -10,6 +10,10 @@ public final class ModelTest {
     private static final int[] EDGES = {Integer.MIN_VALUE, Integer.MIN_VALUE + 1, -2, -1, 0, 1, 2, 3, 4, 5, 6, 7, 8, 9, 10,
         31, 32, 33, 59, 60, 61, 99, 100, 126, 127, 128, 129, 2400, 2401, 9999, 10000, Integer.MAX_VALUE - 1, Integer.MAX_VALUE};
 
+    /** What an object answers behind so many calls is free; oneCall() makes no more than so many. */
+    private static final int MOST_CALLS = 512, MOST_AT_ONCE = 130;
+
+    private static int calls = 0;
     private static long sequence = 20261119;
     private static int wrong = 0;
 
@@ -21,7 +25,7 @@ public final class ModelTest {
             }
         }
         everyPlace();
-        for (int run = 0; run < 600 && wrong < 20; run++) {
+        for (int run = 0; run < 2400 && wrong < 20; run++) {
             oneRun(run);
         }
         System.out.println(wrong == 0 ? "model and class agree" : wrong + " answers are not the model's");
@@ -34,37 +38,62 @@ public final class ModelTest {
     private static void everyPlace() {
         for (int p : PRIMES) {
             for (int e = 1; e <= 4; e++) {
-                PascalRows x = new PascalRows();
-                Model m = new Model();
-                due("prime", x.prime(p), m.prime(p));
-                due("power", x.power(e), m.power(e));
                 for (int i = 0; i < 128; i++) {
-                    for (int k = 0; k <= i; k++) {
-                        due("at " + i + " " + k, x.at(i, k), m.remainder(i, k));
-                        for (int kind = 0; kind < 5; kind++) {
-                            due("rule " + kind + " " + i + " " + k, x.rule(kind, i, k), m.tell(kind, i, k));
-                        }
-                    }
-                    for (int what = 0; what < 4; what++) {
-                        due("row " + i + " " + what, x.row(i, what), m.row(i, what));
-                        due("upTo " + i + " " + what, x.upTo(i, what), m.upTo(i, what));
-                    }
-                    for (int v = -1; v < 66; v++) {
-                        due("kind " + i + " " + v, x.kind(i, v), m.kind(i, v));
-                    }
+                    everyPlaceOf(p, e, i);
                 }
             }
-            PascalRows x = new PascalRows();
-            Model m = new Model();
-            x.prime(p);
-            m.prime(p);
-            for (int v = -1; v <= 10000; v++) {
-                for (int i = -2; i < 16; i++) {
-                    due("digit " + v + " " + i, x.digit(v, i), m.digit(v, i));
-                }
-                due("pure " + v, x.pure(v, 0), m.pure(v, 0));
-                due("pure " + v, x.pure(v, 1), m.pure(v, 1));
+            // So few numbers that one object is asked no more than 512 times.
+            for (int v = -1; v <= 10000; v += 20) {
+                everyDigitOf(p, v, Math.min(v + 19, 10000));
             }
+        }
+    }
+
+    private static PascalRows classBy(int p, int e) {
+        PascalRows x = new PascalRows();
+        x.prime(p);
+        x.power(e);
+        return x;
+    }
+
+    private static Model modelBy(int p, int e) {
+        Model m = new Model();
+        m.prime(p);
+        m.power(e);
+        return m;
+    }
+
+    private static void everyPlaceOf(int p, int e, int i) {
+        Model m = modelBy(p, e);
+        PascalRows x = classBy(p, e);
+        for (int k = 0; k <= i; k++) {
+            due("at " + i + " " + k, x.at(i, k), m.remainder(i, k));
+        }
+        for (int kind = 0; kind < 5; kind++) {
+            x = classBy(p, e);
+            for (int k = 0; k <= i; k++) {
+                due("rule " + kind + " " + i + " " + k, x.rule(kind, i, k), m.tell(kind, i, k));
+            }
+        }
+        x = classBy(p, e);
+        for (int what = 0; what < 4; what++) {
+            due("row " + i + " " + what, x.row(i, what), m.row(i, what));
+            due("upTo " + i + " " + what, x.upTo(i, what), m.upTo(i, what));
+        }
+        for (int v = -1; v < 66; v++) {
+            due("kind " + i + " " + v, x.kind(i, v), m.kind(i, v));
+        }
+    }
+
+    private static void everyDigitOf(int p, int first, int last) {
+        Model m = modelBy(p, 1);
+        PascalRows x = classBy(p, 1);
+        for (int v = first; v <= last; v++) {
+            for (int i = -2; i < 16; i++) {
+                due("digit " + v + " " + i, x.digit(v, i), m.digit(v, i));
+            }
+            due("pure " + v, x.pure(v, 0), m.pure(v, 0));
+            due("pure " + v, x.pure(v, 1), m.pure(v, 1));
         }
     }
 
@@ -105,15 +134,18 @@ public final class ModelTest {
         return text.toString();
     }
 
+    /** Each call of the object is looked at by due(): so it is told how many there were. */
     private static void oneRun(int run) {
         PascalRows x = new PascalRows();
         Model m = new Model();
-        for (int call = 0; call < 512 && wrong < 20; call++) {
-            oneCall(x, m, "run " + run + ", call " + call + ": ");
+        int ahead = calls;
+        while (calls - ahead <= MOST_CALLS - MOST_AT_ONCE && wrong < 20) {
+            oneCall(x, m, "run " + run + ", call " + (calls - ahead) + ": ");
         }
     }
 
     private static void due(String call, long got, long want) {
+        calls++;
         if (got != want) {
             wrong++;
             System.out.println(call + " answered " + got + ", the model " + want);
