@@ -1,6 +1,7 @@
 /** The sentences of promises 1 to 38, each by a test of its own. */
 public final class PromiseSentencesTest extends Sentences {
     public static void main(String[] args) {
+        begin();
         newObject();
         prime();
         power();
@@ -174,6 +175,11 @@ public final class PromiseSentencesTest extends Sentences {
         }
         due("window(0, 0)", x.window(0, 0), 1002);
         of("Promise 6", "BAD: row (0 .. 127), place (0 .. 127).");
+        for (int row : new int[] {0, 1, 127}) {
+            for (int place : new int[] {0, 1, 127}) {
+                due("window(" + row + ", " + place + ")", new PascalRows().window(row, place), 0);
+            }
+        }
         for (int none : beyond(127)) {
             unmoved("window(" + none + ", 0)", y -> y.window(none, 0), BAD);
             unmoved("window(127, " + none + ")", y -> y.window(127, none), BAD);
@@ -196,6 +202,8 @@ public final class PromiseSentencesTest extends Sentences {
         due("they stand in that order", y.read(), 1);
         due("told(0)", y.told(0), 5);
         of("Promise 7", "BAD;");
+        due("feed(0)", new PascalRows().feed(0), 1);
+        due("feed(127)", new PascalRows().feed(127), 1);
         for (int sign : new int[] {LEAST, -128, -1, 128, 255, 256, 256 + 'x', 65536 + 'x', MOST}) {
             unmoved("feed(" + sign + ")", z -> z.feed(sign), BAD);
             unmoved(Sentences::brimful, "feed(" + sign + ")", z -> z.feed(sign), BAD);
@@ -251,6 +259,8 @@ public final class PromiseSentencesTest extends Sentences {
         due("none of no marks", by(2, 1).told(6), 0);
         due("64 at most", told6(marking(by(2, 1), 4, 0, 4, 1), 60, 30), 64);
         of("Promise 9", "NONE.");
+        due("told(0)", x.told(0), 7);
+        due("told(6)", x.told(6), 8);
         for (int what : beyond(6)) {
             unmoved("told(" + what + ")", y -> y.told(what), NONE);
         }
@@ -304,6 +314,8 @@ public final class PromiseSentencesTest extends Sentences {
             due("at(127, " + k + ")", x.at(127, k), remainder(127, k, 2401));
         }
         of("Promise 11", "NONE: row;");
+        due("at(0, 0)", x.at(0, 0), 1);
+        due("at(127, 0)", x.at(127, 0), 1);
         for (int row : beyond(127)) {
             unmoved("at(" + row + ", 0)", y -> y.at(row, 0), NONE);
             unmoved("at(" + row + ", -1)", y -> y.at(row, -1), NONE);
@@ -392,12 +404,16 @@ public final class PromiseSentencesTest extends Sentences {
             check(x.digit(m[1], m[2] - 1) >= (m[1] == 0 ? 0 : 1), "the last digit of " + m[1] + " by " + m[0] + " is there");
         }
         of("Promise 14", "BAD: v (0 .. 9999);");
+        due("digit(0, 0)", by(2, 1).digit(0, 0), 0);
+        due("digit(9999, 0)", by(2, 1).digit(9999, 0), 1);
         for (int v : beyond(9999)) {
             unmoved("digit(" + v + ", 0)", x -> x.digit(v, 0), BAD);
             unmoved("digit(" + v + ", -1)", x -> x.digit(v, -1), BAD);
             unmoved("digit(" + v + ", -2)", x -> x.digit(v, -2), BAD);
         }
         of("Promise 14", "NONE: i below -1.");
+        due("digit(0, -1)", by(2, 1).digit(0, -1), 1);
+        due("digit(9999, -1)", by(2, 1).digit(9999, -1), 14);
         for (int i : new int[] {LEAST, LEAST + 1, -100, -3, -2}) {
             unmoved("digit(0, " + i + ")", x -> x.digit(0, i), NONE);
             unmoved("digit(9999, " + i + ")", x -> x.digit(9999, i), NONE);
@@ -413,6 +429,8 @@ public final class PromiseSentencesTest extends Sentences {
             due("pure(" + t[1] + ", 1) by " + t[0], by(t[0], 3).pure(t[1], 1), t[3]);
         }
         of("Promise 15", "BAD: v (1 .. 9999);");
+        due("pure(1, 0)", by(2, 1).pure(1, 0), 1);
+        due("pure(9999, 0)", by(2, 1).pure(9999, 0), 9999);
         unmoved("pure(0, 0)", x -> x.pure(0, 0), BAD);
         unmoved("pure(0, 1)", x -> x.pure(0, 1), BAD);
         for (int v : beyond(9999)) {
@@ -420,6 +438,8 @@ public final class PromiseSentencesTest extends Sentences {
             unmoved("pure(" + v + ", 2)", x -> x.pure(v, 2), BAD);
         }
         of("Promise 15", "NONE: what.");
+        due("pure(6, 0)", by(2, 1).pure(6, 0), 3);
+        due("pure(6, 1)", by(2, 1).pure(6, 1), 1);
         for (int what : beyond(1)) {
             unmoved("pure(1, " + what + ")", x -> x.pure(1, what), NONE);
             unmoved("pure(9999, " + what + ")", x -> x.pure(9999, what), NONE);
@@ -442,6 +462,8 @@ public final class PromiseSentencesTest extends Sentences {
         due("counted(5, -1)", by(2, 1).counted(5, -1), 0);
         due("counted(5, 2)", by(2, 1).counted(5, 2), 0);
         of("Promise 16", "NONE: row.");
+        due("counted(0, 1)", by(2, 1).counted(0, 1), 1);
+        due("counted(127, 1)", by(2, 1).counted(127, 1), 128);
         for (int row : beyond(127)) {
             unmoved("counted(" + row + ", 0)", x -> x.counted(row, 0), NONE);
             unmoved("counted(" + row + ", -1)", x -> x.counted(row, -1), NONE);
@@ -460,6 +482,10 @@ public final class PromiseSentencesTest extends Sentences {
         due("row(127, 0)", by(7, 4).row(127, 0), 57);
         due("row(127, 2)", by(7, 4).row(127, 2), 142592);
         of("Promise 17", "NONE: row, what.");
+        for (int what = 0; what < 4; what++) {
+            due("row(0, " + what + ")", by(2, 1).row(0, what), what == 3 ? 0 : 1);
+            due("row(127, " + what + ")", by(2, 1).row(127, what), what == 3 ? 0 : what == 2 ? 128 : 1);
+        }
         for (int none : beyond(127)) {
             for (int what = 0; what < 4; what++) {
                 int w = what;
@@ -491,6 +517,8 @@ public final class PromiseSentencesTest extends Sentences {
         due("kind(0, 1)", by(2, 1).kind(0, 1), MISSING);
         due("kind(0, MOST)", by(2, 1).kind(0, MOST), MISSING);
         of("Promise 18", "NONE: row, i below 0.");
+        due("kind(0, 0)", by(2, 1).kind(0, 0), 1);
+        due("kind(127, 0)", by(2, 1).kind(127, 0), 1);
         for (int row : beyond(127)) {
             unmoved("kind(" + row + ", 0)", x -> x.kind(row, 0), NONE);
         }
@@ -509,6 +537,10 @@ public final class PromiseSentencesTest extends Sentences {
             }
         }
         of("Promise 19", "NONE: row, what.");
+        for (int what = 0; what < 3; what++) {
+            due("upTo(0, " + what + ")", by(7, 4).upTo(0, what), what == 0 ? 1 : 0);
+            due("upTo(127, " + what + ")", by(7, 4).upTo(127, what), what == 0 ? 128 : what == 1 ? 127 : 0);
+        }
         for (int none : beyond(127)) {
             for (int what = 0; what < 3; what++) {
                 int w = what;
@@ -537,6 +569,8 @@ public final class PromiseSentencesTest extends Sentences {
         x.clear();
         due("no marks", x.picture(0), 0);
         of("Promise 20", "NONE: i.");
+        due("picture(0)", marking(new PascalRows(), 0, 1).picture(0), 1);
+        due("picture(7)", marking(new PascalRows(), 0, 1).picture(7), 255);
         for (int i : beyond(7)) {
             unmoved("picture(" + i + ")", y -> y.picture(i), NONE);
         }
@@ -569,6 +603,8 @@ public final class PromiseSentencesTest extends Sentences {
         due("row 3's place 4, row 2's place 1 by 2", x.like(3, 4, 2, 1, 1), 1);
         due("row 4's place 4, row 2's place 1 by 2", x.like(4, 4, 2, 1, 1), 0);
         of("Promise 21", "NONE: a, b, c, d (0 .. 127 each);");
+        due("b and d beyond their rows", x.like(0, 127, 5, 127, 1), 1);
+        due("a and c the last rows", x.like(127, 0, 127, 0, 1), 1);
         for (int none : beyond(127)) {
             unmoved("like(" + none + ", 0, 0, 0, 1)", y -> y.like(none, 0, 0, 0, 1), NONE);
             unmoved("like(0, " + none + ", 0, 0, 1)", y -> y.like(0, none, 0, 0, 1), NONE);
@@ -588,6 +624,11 @@ public final class PromiseSentencesTest extends Sentences {
 
     private static void scaled() {
         of("Promise 22", "SCALED by t (1, 0).");
+        // By 2 rows 12 .. 14 and 24 .. 26 begin as rows 0 .. 2.
+        int[] threes = {0, 0, 0, 1, 0, 0, 0, 1, 0};
+        for (int t = 1; t <= 9; t++) {
+            due("scaled(3, " + t + ")", by(2, 1).scaled(3, t), threes[t - 1]);
+        }
         due("scaled(8, 1)", by(2, 1).scaled(8, 1), 1);
         due("scaled(7, 1)", by(2, 1).scaled(7, 1), 0);
         due("scaled(8, 9)", by(2, 1).scaled(8, 9), 1);
@@ -598,6 +639,10 @@ public final class PromiseSentencesTest extends Sentences {
         due("scaled(9, 1) by 9", by(3, 2).scaled(9, 1), 0);
         due("scaled(7, 9)", by(7, 1).scaled(7, 9), 1);
         of("Promise 22", "BAD: s, t.");
+        due("scaled(1, 1)", by(2, 1).scaled(1, 1), 1);
+        due("scaled(32, 1)", by(2, 1).scaled(32, 1), 1);
+        due("scaled(1, 9)", by(2, 1).scaled(1, 9), 1);
+        due("scaled(32, 9)", by(2, 1).scaled(32, 9), 0);
         unmoved("scaled(0, 1)", x -> x.scaled(0, 1), BAD);
         unmoved("scaled(1, 0)", x -> x.scaled(1, 0), BAD);
         for (int s : beyond(32)) {
@@ -632,6 +677,9 @@ public final class PromiseSentencesTest extends Sentences {
             due("the first that comes then", y.see(0, 0, 1), 1);
         }
         of("Promise 23", "NONE: row, place;");
+        due("see(0, 0, 0)", new PascalRows().see(0, 0, 0), 1);
+        due("see(127, 127, 0)", new PascalRows().see(127, 127, 0), 1);
+        due("see(127, 0, 0)", new PascalRows().see(127, 0, 0), 1);
         for (int row : new int[] {LEAST, -128, -2, 128, 129, MOST}) {
             unmoved("see(" + row + ", 0, 0)", y -> y.see(row, 0, 0), NONE);
             unmoved("see(" + row + ", 0, -1)", y -> y.see(row, 0, -1), NONE);
@@ -643,6 +691,8 @@ public final class PromiseSentencesTest extends Sentences {
             due("see(" + row + ", " + row + ", 0)", new PascalRows().see(row, row, 0), 1);
         }
         of("Promise 23", "BAD: v (0 .. 2400);");
+        due("see(5, 5, 0)", new PascalRows().see(5, 5, 0), 1);
+        due("see(5, 5, 2400), whatever M is", new PascalRows().see(5, 5, 2400), 1);
         for (int v : beyond(2400)) {
             unmoved("see(5, 5, " + v + ")", y -> y.see(5, 5, v), BAD);
             unmoved(Sentences::brimful, "see(5, 5, " + v + ")", y -> y.see(5, 5, v), BAD);
@@ -682,6 +732,10 @@ public final class PromiseSentencesTest extends Sentences {
         due("20 of 26", by(5, 4).odds(25, 2, 2, 0), 10);
         due("20 of 26", by(5, 4).odds(25, 2, 2, 1), 13);
         of("Promise 25", "NO: row, kind, part.");
+        for (int kind = 0; kind < 5; kind++) {
+            due("odds(0, " + kind + ", 0, 1)", x.odds(0, kind, 0, 1), 1);
+            due("odds(127, " + kind + ", 9, 0)", x.odds(127, kind, 9, 0), 0);
+        }
         for (int none : beyond(127)) {
             unmoved("odds(" + none + ", 0, 0, 0)", y -> y.odds(none, 0, 0, 0), NO);
         }
@@ -707,6 +761,8 @@ public final class PromiseSentencesTest extends Sentences {
         due("142592 by 128", by(7, 4).mean(127, 0), 1114);
         due("142592 by 128", by(7, 4).mean(127, 1), 1);
         of("Promise 26", "NO: row, part.");
+        due("mean(0, 0)", by(2, 1).mean(0, 0), 1);
+        due("mean(127, 1)", by(2, 1).mean(127, 1), 1);
         for (int none : beyond(127)) {
             unmoved("mean(" + none + ", 0)", x -> x.mean(none, 0), NO);
             unmoved("mean(" + none + ", 1)", x -> x.mean(none, 1), NO);
@@ -739,6 +795,9 @@ public final class PromiseSentencesTest extends Sentences {
             due("after(1)", y.after(1), 3);
         }
         of("Promise 27", "NONE: what (0 .. 3);");
+        for (int what = 0; what <= 3; what++) {
+            due("event(" + what + ", ..)", new PascalRows().event(what, what == 1 ? 1 : 0), 1);
+        }
         for (int what : new int[] {LEAST, -128, -2, 4, 5, 256, MOST}) {
             unmoved("event(" + what + ", 0)", y -> y.event(what, 0), NONE);
             unmoved("event(" + what + ", -1)", y -> y.event(what, -1), NONE);
@@ -787,6 +846,9 @@ public final class PromiseSentencesTest extends Sentences {
         due("no marks", x.after(0), 0);
         due("no marks", x.after(2), 0);
         of("Promise 28", "NONE.");
+        for (int what = 0; what <= 2; what++) {
+            due("after(" + what + ")", new PascalRows().after(what), what == 1 ? 2 : 0);
+        }
         for (int what : beyond(2)) {
             unmoved("after(" + what + ")", y -> y.after(what), NONE);
         }
@@ -823,12 +885,16 @@ public final class PromiseSentencesTest extends Sentences {
             due("looked()", y.looked(), 0);
         }
         of("Promise 29", "NONE: row;");
+        due("book(0, 0)", new PascalRows().book(0, 0), 1);
+        due("book(127, 0)", new PascalRows().book(127, 0), 1);
         for (int row : new int[] {LEAST, -128, -2, 128, 129, MOST}) {
             unmoved("book(" + row + ", 0)", y -> y.book(row, 0), NONE);
             unmoved("book(" + row + ", -1)", y -> y.book(row, -1), NONE);
             unmoved(Sentences::brimful, "book(" + row + ", 0)", y -> y.book(row, 0), NONE);
         }
         of("Promise 29", "BAD: v (0 .. 2400);");
+        due("book(127, 0)", new PascalRows().book(127, 0), 1);
+        due("book(0, 2400), whatever M is", new PascalRows().book(0, 2400), 1);
         for (int v : beyond(2400)) {
             unmoved("book(127, " + v + ")", y -> y.book(127, v), BAD);
             unmoved(Sentences::brimful, "book(0, " + v + ")", y -> y.book(0, v), BAD);
@@ -888,6 +954,10 @@ public final class PromiseSentencesTest extends Sentences {
         due("row 0, nothing there", x.judge(0, 2, 0), 200);
         unmoved("judge(3, 1, 0)", y -> y.judge(3, 1, 0), MISSING);
         of("Promise 31", "NONE: row, tape;");
+        for (int tape = 0; tape < 6; tape++) {
+            due("judge(0, " + tape + ", 0)", new PascalRows().judge(0, tape, 0), 200);
+            due("judge(127, " + tape + ", 0)", new PascalRows().judge(127, tape, 0), 200);
+        }
         for (int none : beyond(127)) {
             unmoved("judge(" + none + ", 1, 0)", y -> y.judge(none, 1, 0), NONE);
             unmoved("judge(" + none + ", 0, 0)", y -> y.judge(none, 0, 0), NONE);
@@ -1030,6 +1100,7 @@ public final class PromiseSentencesTest extends Sentences {
             due("the one behind it", x.peek(2, 0), 20);
         }
         of("Promise 35", "NONE: tape;");
+        due("tape(0, 0, 1)", new PascalRows().tape(0, 0, 1), 1);
         for (int tape : beyond(5)) {
             unmoved("tape(" + tape + ", 0, 1)", x -> x.tape(tape, 0, 1), NONE);
             unmoved("tape(" + tape + ", -1, 1)", x -> x.tape(tape, -1, 1), NONE);
@@ -1038,6 +1109,9 @@ public final class PromiseSentencesTest extends Sentences {
         }
         due("tape(5, 0, 1)", new PascalRows().tape(5, 0, 1), 1);
         of("Promise 35", "BAD: sort, n above 60;");
+        for (int sort = -1; sort <= 4; sort++) {
+            due("tape(0, " + sort + ", 60)", new PascalRows().tape(0, sort, 60), 1);
+        }
         for (int sort : new int[] {LEAST, -128, -2, 5, 6, 256, MOST}) {
             unmoved("tape(0, " + sort + ", 1)", x -> x.tape(0, sort, 1), BAD);
             unmoved("tape(0, " + sort + ", -1)", x -> x.tape(0, sort, -1), BAD);
@@ -1049,6 +1123,7 @@ public final class PromiseSentencesTest extends Sentences {
             }
         }
         of("Promise 35", "SIZE.");
+        due("tape(0, 0, 0)", new PascalRows().tape(0, 0, 0), 1);
         for (int n : new int[] {LEAST, LEAST + 1, -60, -2, -1}) {
             for (int sort = 0; sort < 5; sort++) {
                 int s = sort;
@@ -1090,6 +1165,8 @@ public final class PromiseSentencesTest extends Sentences {
         items(x, 0, 10, 11, 12);
         items(x, 2, 20, 21, 22, 23);
         of("Promise 36", "NONE;");
+        due("item(0, 0, 1)", furnished().item(0, 0, 1), 1);
+        due("item(5, 0, 1)", furnished().item(5, 0, 1), NOTHING);
         for (int tape : beyond(5)) {
             unmoved("item(" + tape + ", 0, 1)", y -> y.item(tape, 0, 1), NONE);
             unmoved("item(" + tape + ", -1, 1)", y -> y.item(tape, -1, 1), NONE);
@@ -1125,6 +1202,8 @@ public final class PromiseSentencesTest extends Sentences {
         x.item(3, 0, Long.MAX_VALUE);
         items(x, 3, Long.MAX_VALUE, 31);
         of("Promise 37", "NO: no such TAPE, nothing there, no such place.");
+        due("peek(0, 0)", furnished().peek(0, 0), 10);
+        due("peek(0, 2)", furnished().peek(0, 2), 12);
         for (int tape : beyond(5)) {
             unmoved("peek(" + tape + ", 0)", y -> y.peek(tape, 0), NO);
         }
@@ -1168,6 +1247,8 @@ public final class PromiseSentencesTest extends Sentences {
         }
         booleansAndLong();
         of("Promise 38", "NONE: tapes;");
+        due("shift(0, 0, 0, 1, 1)", furnished().shift(0, 0, 0, 1, 1), 1);
+        due("shift(5, 0, 5, 0, 1)", furnished().shift(5, 0, 5, 0, 1), NOTHING);
         for (int none : beyond(5)) {
             unmoved("shift(" + none + ", 0, 0, 0, 1)", x -> x.shift(none, 0, 0, 0, 1), NONE);
             unmoved("shift(0, 0, " + none + ", 0, 1)", x -> x.shift(0, 0, none, 0, 1), NONE);

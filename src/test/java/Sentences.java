@@ -15,11 +15,13 @@ abstract class Sentences {
     static final int LEAST = Integer.MIN_VALUE, MOST = Integer.MAX_VALUE;
     static final int[] PRIMES = {2, 3, 5, 7};
 
+    /** Tests take some seconds; a call that hasn't ended in so many won't end. */
+    private static final int MOST_SECONDS = 120;
     private static final String DOCUMENT = document();
     private static final boolean[] TOLD = new boolean[DOCUMENT.length()];
     private static final BigInteger[][] TRIANGLE = triangle();
 
-    private static String sentence = "no sentence is named";
+    private static volatile String sentence = "no sentence is named";
     private static int wrong = 0;
 
     /** A call of an object. */
@@ -33,6 +35,21 @@ abstract class Sentences {
     }
 
     // ---- the document's sentences
+
+    /** A call that doesn't end is told with the sentence that it was made for. */
+    static void begin() {
+        Thread guard = new Thread(() -> {
+            try {
+                Thread.sleep(1000L * MOST_SECONDS);
+            } catch (InterruptedException e) {
+                return;
+            }
+            System.out.println("[" + sentence + "] a call doesn't end");
+            Runtime.getRuntime().halt(1);
+        });
+        guard.setDaemon(true);
+        guard.start();
+    }
 
     private static String document() {
         try {

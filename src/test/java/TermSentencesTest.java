@@ -8,6 +8,7 @@ public final class TermSentencesTest extends Sentences {
     private static final String LONG = "w001,002;".repeat(11);
 
     public static void main(String[] args) {
+        begin();
         whatItIs();
         triangle();
         digits();
@@ -759,6 +760,9 @@ public final class TermSentencesTest extends Sentences {
         due("rows 112 .. 127", by(2, 1).scaled(16, 7), 1);
         due("t 0", by(2, 1).scaled(8, 0), BAD);
         due("t 10", by(2, 1).scaled(8, 10), BAD);
+        due("t 9", by(2, 1).scaled(8, 9), 1);
+        due("rows 12 .. 14 by 2 begin as rows 0 .. 2", by(2, 1).scaled(3, 4), 1);
+        due("rows 15 .. 17 don't", by(2, 1).scaled(3, 5), 0);
     }
 
     private static void seenAndOdds() {
@@ -1255,6 +1259,9 @@ public final class TermSentencesTest extends Sentences {
         x.book(9, 0);
         x.book(10, 0);
         due("rows 8 and 9 haven't, row 10 has", x.looked(), 2);
+        x.book(-1, 0);
+        x.book(9, 1);
+        due("at place 10 of row 9 is no 1", x.looked(), 0);
         due("at(9, 10)", x.at(9, 10), 0);
         due("rows 127 and 128 from place 127 on: 1 0, 0 0", x.like(127, 127, 127, 127, 2), 1);
         due("beyond row 127 as beyond row 0", x.like(127, 126, 0, 126, 1), 0);
