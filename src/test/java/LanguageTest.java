@@ -27,6 +27,7 @@ public final class LanguageTest {
     public static void main(String[] args) throws Exception {
         String source = Files.readString(SOURCE);
         face(Files.readString(DOCUMENT));
+        headings(Files.readString(DOCUMENT), source);
         names();
         statics();
         words(withoutComments(source));
@@ -82,6 +83,23 @@ public final class LanguageTest {
             }
         }
         check(constants.equals(Set.of("int NONE", "int BAD", "int STATE", "int FULL", "long NO")), "the constants: " + constants);
+    }
+
+    /** What the interface says ahead of some calls stands ahead of them in the class, too. */
+    private static void headings(String document, String source) {
+        Matcher heading = Pattern.compile("Ahead of the calls (.*) the interface says: (---- .*)\\.").matcher(document);
+        int headings = 0;
+        while (heading.find()) {
+            int begin = source.indexOf("// " + heading.group(2) + "\n");
+            int end = source.indexOf("// ----", begin + 1);
+            check(begin >= 0 && end > begin, "the class has the heading " + heading.group(2));
+            Matcher call = Pattern.compile("`(\\w+)`").matcher(heading.group(1));
+            while (call.find() && begin >= 0 && end > begin) {
+                check(source.substring(begin, end).matches("(?s).*\n    public (int|long) " + call.group(1) + "\\(.*"), call.group(1) + " stands below " + heading.group(2));
+            }
+            headings++;
+        }
+        check(headings == 7, "the document's headings are read whole: " + headings);
     }
 
     private static void names() {

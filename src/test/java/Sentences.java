@@ -162,6 +162,9 @@ abstract class Sentences {
         due("peek(" + tape + ", " + items.length + ")", x.peek(tape, items.length), NO);
     }
 
+    /** So many calls furnished() takes. */
+    static final int FURNISHED_BY = 58;
+
     /** Something of everything; THE IMAGE has something else of everything; TAPE 5 holds nothing. */
     static PascalRows furnished() {
         PascalRows x = marking(by(5, 2), 0, 1, 2, 1);

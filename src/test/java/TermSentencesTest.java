@@ -41,6 +41,40 @@ public final class TermSentencesTest extends Sentences {
             due("call " + call, x.prime(call % 2 == 1 ? 3 : 2), call % 2 == 1 ? 2 : 3);
         }
         due("call 512", x.at(3, 1), 0);
+        lastCalls();
+    }
+
+    /** That calls 511 and 512 answer as the same calls of an object that has been asked less. */
+    private static void lastCalls() {
+        Call[] changes = {x -> x.prime(2), x -> x.power(1), x -> x.mark(1, 7), x -> x.clear(), x -> x.window(1, 1), x -> x.feed(';'), x -> x.read(),
+            x -> x.see(2, 1, 2), x -> x.see(-1, 0, 0), x -> x.event(2, 40), x -> x.event(-1, 0), x -> x.book(7, 5), x -> x.book(-1, 0), x -> x.image(),
+            x -> x.undo(), x -> x.tape(1, 1, 5), x -> x.tape(1, -1, 0), x -> x.item(1, 1, 9), x -> x.shift(1, 0, 1, 1, 2)};
+        Call[] told = {x -> x.told(0), x -> x.told(1), x -> x.told(2), x -> x.told(3), x -> x.told(6), x -> x.markOf(0, 0), x -> x.markOf(3, 1),
+            x -> x.at(60, 30), x -> x.rule(0, 60, 30), x -> x.rule(1, 60, 4), x -> x.rule(2, 60, 31), x -> x.rule(3, 60, 31), x -> x.rule(4, 60, 31),
+            x -> x.marked(60, 30), x -> x.digit(9720, 2), x -> x.pure(9720, 0), x -> x.counted(60, 0), x -> x.row(60, 0), x -> x.row(60, 1), x -> x.row(60, 2),
+            x -> x.row(60, 3), x -> x.kind(60, 2), x -> x.upTo(60, 0), x -> x.upTo(60, 1), x -> x.upTo(60, 2), x -> x.picture(3), x -> x.like(0, 0, 27, 0, 27),
+            x -> x.scaled(8, 3), x -> x.fits(), x -> x.odds(60, 2, 1, 0), x -> x.mean(60, 1), x -> x.after(0), x -> x.after(1), x -> x.after(2), x -> x.looked(),
+            x -> x.judge(3, 1, 0), x -> x.count(0), x -> x.count(1), x -> x.count(2), x -> x.count(3), x -> x.peek(1, 1), x -> x.window(0, 0), x -> x.clear(),
+            x -> x.prime(3), x -> x.power(4), x -> x.mark(4, 1), x -> x.feed('x'), x -> x.read(), x -> x.see(3, 1, 3), x -> x.event(1, 3), x -> x.book(12, 0),
+            x -> x.image(), x -> x.undo(), x -> x.tape(2, 0, 60), x -> x.item(1, 3, 1), x -> x.shift(1, 0, 1, 2, 2)};
+        for (int i = 0; i < changes.length; i++) {
+            for (int j = 0; j < told.length; j++) {
+                PascalRows early = furnished();
+                PascalRows late = askedOften();
+                due("call 511, change " + i, changes[i].on(late), changes[i].on(early));
+                due("call 512, " + j + " behind change " + i, told[j].on(late), told[j].on(early));
+            }
+        }
+    }
+
+    /** As furnished(), but asked 510 times by now; what is asked or refused changes nothing. */
+    private static PascalRows askedOften() {
+        Call[] idle = {x -> x.told(6), x -> x.after(0), x -> x.fits(), x -> x.peek(1, 3), x -> x.mark(5, 0), x -> x.see(128, 0, 0), x -> x.item(5, 0, 1)};
+        PascalRows x = furnished();
+        for (int call = FURNISHED_BY + 1; call <= 510; call++) {
+            idle[call % idle.length].on(x);
+        }
+        return x;
     }
 
     // ---- 1: the triangle
